@@ -249,7 +249,7 @@ public final class AreaCore {
         }
 
         private void takeState(int state) {
-            level = Math.min(state & 3, TOP_LEVEL);
+            level = (state & 3) > TOP_LEVEL ? TOP_LEVEL : state & 3;
             set = state >> 2 & 1;
             depth = state >> 3 & 15;
         }
@@ -434,7 +434,8 @@ public final class AreaCore {
             if (p > registers.priority) {
                 takeInterrupt(p);
             } else {
-                finish(tryInstruction());
+                int refusal = refuseFetch();
+                finish(refusal == GOES_ON ? perform(memory.read(registers.pc)) : refusal);
             }
             if (runs && registers.drained) {
                 takeTrap(TRAP_DRAINED, registers.pc);
@@ -482,34 +483,39 @@ public final class AreaCore {
             return guarding && registers.level != TOP_LEVEL;
         }
 
-        private int tryInstruction() {
+        /** What stands against doing the word at PC. */
+        private int refuseFetch() {
             if (!Memory.has(registers.pc)) {
                 return TRAP_NO_ADDRESS;
             }
-            if (isGuarded() && !ranges.letsRun(registers.set, registers.pc)) {
-                return TRAP_CODE;
-            }
-            int w = memory.read(registers.pc);
+            boolean lets = !isGuarded() || ranges.letsRun(registers.set, registers.pc);
+            return lets ? GOES_ON : TRAP_CODE;
+        }
+
+        private int perform(int w) {
             int op = w & 31;
+            int i = amount(w);
             if (needsTopLevel(op) && registers.level != TOP_LEVEL) {
                 return TRAP_LEVEL;
             }
-            if (op == 0) {
-                return TRAP_NO_INSTRUCTION;
+            switch (op) {
+                case 0: return TRAP_NO_INSTRUCTION;
+                case 13: case 14: case 15: case 16: return moveWord(op, w);
+                case 17: return readRing(w);
+                case 18: case 19: case 20: return jump(op, w);
+                case 21: return callDown(i);
+                case 22: return registers.depth == 0 ? TRAP_NO_CALL : goBack(false);
+                case 23: return keepLower();
+                case 24: return bringLowerBack();
+                case 25: return openHandler(i & 15);
+                case 26: return goBack(true);
+                case 27: return TRAP_ASKED + (i & 255);
+                case 28: registers.enabled = (i & 1) == 1; return GOES_ON;
+                case 29: registers.set = i & 1; return GOES_ON;
+                case 30: return changeLevel(i & 1);
+                case 31: return HALTS;
+                default: return compute(op, w);
             }
-            if (op <= 12) {
-                return compute(op, w);
-            }
-            if (op <= 16) {
-                return moveWord(op, w);
-            }
-            if (op == 17) {
-                return readRing(w);
-            }
-            if (op <= 20) {
-                return jump(op, w);
-            }
-            return op <= 26 ? changeContext(op, w) : control(op, w);
         }
 
         private static boolean needsTopLevel(int op) {
@@ -617,17 +623,6 @@ public final class AreaCore {
             return JUMPED;
         }
 
-        private int changeContext(int op, int w) {
-            switch (op) {
-                case 21: return callDown(amount(w));
-                case 22: return registers.depth == 0 ? TRAP_NO_CALL : goBack(false);
-                case 23: return keepLower();
-                case 24: return bringLowerBack();
-                case 25: return openHandler(amount(w) & 15);
-                default: return goBack(true);
-            }
-        }
-
         private int callDown(int i) {
             if (registers.depth == DEEPEST) {
                 return TRAP_TOO_DEEP;
@@ -668,23 +663,12 @@ public final class AreaCore {
         }
 
         private int openHandler(int priority) {
-            int end = keepLower();
-            if (end == GOES_ON) {
-                registers.priority = priority;
-                registers.enabled = true;
+            if (!registers.keep(memory, false)) {
+                return HALTS;
             }
-            return end;
-        }
-
-        private int control(int op, int w) {
-            int bit = amount(w) & 1;
-            switch (op) {
-                case 27: return TRAP_ASKED + (amount(w) & 255);
-                case 28: registers.enabled = bit == 1; return GOES_ON;
-                case 29: registers.set = bit; return GOES_ON;
-                case 30: return changeLevel(bit);
-                default: return HALTS;
-            }
+            registers.priority = priority;
+            registers.enabled = true;
+            return GOES_ON;
         }
 
         private int changeLevel(int level) {

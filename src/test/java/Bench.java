@@ -99,7 +99,7 @@ final class Bench {
         due("look(" + which + ")", x.look(which), want);
     }
 
-    /** Looks at LATEST, TRAPS and PC. */
+    /** Looks at LATEST and TRAPS. */
     void trapped(int trapClass, int number, int howMany) {
         look(LATEST, 16 * trapClass + (number & 15));
         look(TRAPS, howMany);

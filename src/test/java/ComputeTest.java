@@ -111,10 +111,14 @@ public final class ComputeTest {
         edge.go(0, 3);
         edge.word(0, 5);
         edge.untrapped();
-        Bench wrap = Bench.ready("words, wrapped", 1).words(3, 44);
-        wrap.setA(1, Integer.MIN_VALUE + 4);
-        wrap.setA(2, Integer.MAX_VALUE);
-        wrap.words(0, Bench.ins(13, 1, 1, 0, -1), Bench.ins(13, 1, 2, 0, 1)).go(0, 1);
+        Bench below = Bench.ready("words from below", 1).words(300, 44);
+        below.setA(1, -20);
+        below.words(0, Bench.ins(13, 1, 1, 0, 320), Bench.ins(13, 1, 1, 0, 19)).go(0, 2);
+        below.register(Bench.D, 1, 44);
+        below.trapped(4, 1, 1);
+        Bench wrap = Bench.ready("words, wrapped", 1);
+        wrap.setA(1, Integer.MAX_VALUE);
+        wrap.words(0, Bench.ins(13, 1, 1, 0, 1)).go(0, 1);
         wrap.trapped(4, 1, 1);
     }
 
@@ -167,7 +171,9 @@ public final class ComputeTest {
     }
 
     private static void wrongRings() {
-        int[][] wrong = {{0, 0, 2}, {0, 1, 2}, {5, 5, 2}, {5, 6, 2}, {65535, 65535, 2}, {0, 9000, 2}, {9, 8, 4}};
+        int[][] wrong = {
+            {0, 0, 2}, {0, 1, 2}, {5, 5, 2}, {5, 6, 2}, {65535, 65535, 2}, {0, 9000, 2}, {9, 8, 4},
+        };
         for (int[] one : wrong) {
             Bench b = Bench.ready("wrong ring", 1);
             int ring = one[0] * 65536 + one[1];

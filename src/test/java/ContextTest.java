@@ -12,6 +12,7 @@ public final class ContextTest {
         kindsInTheLink();
         stateComesBack();
         leaving();
+        returnLeavesThePriority();
         deepest();
         returnAtDepthZero();
         otherKind();
@@ -148,6 +149,17 @@ public final class ContextTest {
                 b.untrapped();
             }
         }
+    }
+
+    private static void returnLeavesThePriority() {
+        Bench b = Bench.ready("return leaves the priority", 4);
+        b.words(0, CALL, Bench.ins(25, 9), BACK, RETURN).go(2, 3);
+        b.look(Bench.LINK, 33);
+        b.run(1, 1);
+        b.look(Bench.PC, 1);
+        b.look(Bench.PRIORITY, 9);
+        b.look(Bench.ENABLED, 1);
+        b.untrapped();
     }
 
     private static void deepest() {

@@ -11,6 +11,7 @@ public final class GuardTest {
         dataOfBothRanges();
         code();
         oddRanges();
+        codeIsNoData();
         topLevelAndOff();
         setsApart();
         addressBeforeGuard();
@@ -122,8 +123,20 @@ public final class GuardTest {
         use(b, 6, READ_AT_A1, 0x12);
         b.x.range(0, 0, 5, 5, 3);
         use(b, 5, READ_AT_A1, 0x12);
-        b.x.range(0, 2, 5, 6, 3);
-        use(b, 5, READ_AT_A1, 0x12);
+    }
+
+    /** The rights of a code range let nothing be read or written. */
+    private static void codeIsNoData() {
+        Bench b = Bench.ready("code is no data", 4).words(0, READ_AT_A1);
+        for (int rights = 0; rights <= 3; rights++) {
+            b.x.range(0, 2, 0, 512, rights);
+            b.x.guard(true);
+            b.x.pool(4, 31);
+            b.x.put(0, rights < 2 ? READ_AT_A1 : WRITE_AT_A1);
+            b.go(1, 1);
+            b.trapped(1, rights < 2 ? 2 : 3, rights + 1);
+            b.x.halt();
+        }
     }
 
     private static void topLevelAndOff() {
