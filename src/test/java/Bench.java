@@ -1,5 +1,13 @@
+import java.util.List;
+import java.util.function.Consumer;
+import java.util.function.Function;
+
 /** One AreaCore under test, with the answers that are due; every wrong one is printed and counted. */
 final class Bench {
+    /** Of a bench that is ready: where traps and interrupts lead. */
+    static final int TABLE = 100;
+    static final int OTHER = 140;
+
     static final int D = 0;
     static final int A = 1;
     static final int RUNS = 0;
@@ -18,7 +26,7 @@ final class Bench {
 
     private static int wrong = 0;
 
-    final AreaCore x = new AreaCore();
+    final Recorder x = new Recorder();
     private final String name;
 
     Bench(String name) {
@@ -29,8 +37,36 @@ final class Bench {
     static Bench ready(String name, int n) {
         Bench bench = new Bench(name);
         bench.x.pool(n, 31);
-        bench.x.tables(100, 140);
+        bench.x.tables(TABLE, OTHER);
         return bench;
+    }
+
+    /** The addresses where ranges of a busy bench begin and end, and some others. */
+    static final int[] EDGES = {0, 40, 60, 200, 203, 210, 213, 220, 223, 230, 233, 300, 512};
+
+    /** A bench that runs, with nothing that is 0: ranges, timer, lists, STATE, PENDING, a trap. */
+    static Bench busy(String name) {
+        Bench b = ready(name, 10).filled();
+        b.x.range(0, 0, 200, 203, 1);
+        b.x.range(0, 1, 210, 213, 2);
+        b.x.range(0, 2, 0, 40, 0);
+        b.x.range(1, 0, 220, 223, 2);
+        b.x.range(1, 1, 230, 233, 3);
+        b.x.range(1, 2, 0, 60, 1);
+        b.x.guard(true);
+        b.x.request(14);
+        b.words(0, ins(25, 9), ins(29, 1), ins(27, 5), ins(21, 1), ins(30, 1), ins(18, 0));
+        b.words(TABLE + 24, ins(26, 0)).words(OTHER + 4 * 14, ins(26, 0));
+        b.x.start(0, 2, true);
+        b.run(9, 9);
+        b.x.request(3);
+        b.x.timer(17, 6);
+        b.look(STATE, 1 + 4 + 8);
+        b.look(PRIORITY, 9);
+        b.look(TAKEN, 1);
+        b.trapped(6, 5, 1);
+        b.lists(8, 2);
+        return b;
     }
 
     static int ins(int op, int a, int b, int c, int i) {
@@ -148,19 +184,76 @@ final class Bench {
         x.halt();
     }
 
-    /** What the face shows of the state, but for most of the words. */
-    long shown() {
-        long sum = 0;
-        for (int which = 0; which <= 12; which++) {
-            sum = sum * 1000003 + x.look(which);
+    /** D0 .. D7 become 10 .. 17 and A0 .. A7 20 .. 27, by a program at 448. */
+    Bench filled() {
+        for (int k = 0; k < 8; k++) {
+            words(448 + 2 * k, ins(1, k, 0, 0, 10 + k), ins(9, k, 0, 0, 20 + k));
         }
-        for (int k = 0; k < 16; k++) {
-            sum = sum * 1000003 + x.register(k >> 3, k & 7);
+        x.start(448, 2, false);
+        run(16, 16);
+        x.halt();
+        return this;
+    }
+
+    /**
+     * It runs from pc on with this STATE word, by a program at 470 that calls, and comes back to
+     * what was put into the area; that is the first of the FREE list, and is so again.
+     */
+    Bench enter(int pc, int state, boolean enabled) {
+        words(470, ins(21, 1), ins(9, 7, 0, 0, pc), ins(26, 0));
+        x.start(470, 2, enabled);
+        run(2, 2);
+        x.put(area(x.look(LINK) & 31) + 1, state);
+        run(1, 1);
+        look(PC, pc);
+        look(STATE, state);
+        return this;
+    }
+
+    /** Makes one step; it must change what is due (and TIME), and nothing else that can be seen. */
+    Bench step(String what, Consumer<Seen> due) {
+        return changes(what, () -> run(1, 1), seen -> due.accept(seen.set(TIME, seen.looks[TIME] + 1)));
+    }
+
+    /** Does it; that must change what is due, and nothing else that can be seen. */
+    Bench changes(String what, Runnable doing, Consumer<Seen> due) {
+        Seen want = Seen.of(x);
+        due.accept(want);
+        doing.run();
+        return seen(what, want);
+    }
+
+    /** All that can be seen must be so. */
+    Bench seen(String what, Seen want) {
+        String differs = want.differs(Seen.of(x));
+        if (!differs.isEmpty()) {
+            wrong++;
+            System.out.println(name + ", " + what + ":" + differs);
         }
-        for (int k = 0; k < 16; k++) {
-            sum = sum * 1000003 + x.word(k);
-            sum = sum * 1000003 + x.word(256 + k);
+        return this;
+    }
+
+    /**
+     * Makes a call that must answer so, or throw what bears this name, and change nothing: neither
+     * what can be seen, nor what shows later at the edges of ranges.
+     */
+    void refused(String call, Function<Recorder, Object> doing, String due, int... edges) {
+        Seen before = Seen.of(x);
+        List<Integer> sequel = Sequel.of(x, edges);
+        String got = answer(doing);
+        if (!got.equals(due)) {
+            wrong++;
+            System.out.println(name + ", " + call + ": answered " + got + ", due is " + due);
         }
-        return (sum * 1000003 + x.list(0)) * 1000003 + x.list(1);
+        seen(call, before);
+        due(call + " leaves what shows later", sequel.equals(Sequel.of(x, edges)), true);
+    }
+
+    private String answer(Function<Recorder, Object> doing) {
+        try {
+            return String.valueOf(doing.apply(x));
+        } catch (RuntimeException e) {
+            return e.getClass().getSimpleName();
+        }
     }
 }

@@ -25,14 +25,14 @@ public final class MemoryTest {
 
     private static void noSuchAddress() {
         Bench b = new Bench("no words");
-        long before = b.shown();
+        Seen before = Seen.of(b.x);
         int[] addresses = {-1, 512, 513, -512, Integer.MIN_VALUE, Integer.MAX_VALUE, 1 << 16};
         for (int address : addresses) {
             b.due("put(" + address + ")", b.x.put(address, 5), false);
             b.word(address, 0);
         }
         b.word(511, 0);
-        b.due("state", b.shown(), before);
+        b.seen("refused", before);
     }
 
     private static void whileItRuns() {

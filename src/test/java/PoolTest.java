@@ -42,18 +42,18 @@ public final class PoolTest {
         Bench b = Bench.ready("wrong pool", 3).words(0, Bench.ins(23, 0), Bench.ins(18, 0));
         b.go(2, 2);
         b.x.halt();
-        long before = b.shown();
+        Seen before = Seen.of(b.x);
         int[][] wrong = {{-1, 0}, {25, 0}, {Integer.MIN_VALUE, 1}, {3, -1}, {3, 32}, {99, 99}};
         for (int[] one : wrong) {
             b.throwing("pool", IllegalArgumentException.class, () -> b.x.pool(one[0], one[1]));
         }
-        b.due("state", b.shown(), before);
+        b.seen("refused", before);
         b.x.start(1, 2, false);
-        before = b.shown();
+        before = Seen.of(b.x);
         b.throwing("pool, runs", IllegalStateException.class, () -> b.x.pool(3, 0));
         b.throwing("pool, both", IllegalArgumentException.class, () -> b.x.pool(25, 0));
         b.throwing("pool, both", IllegalArgumentException.class, () -> b.x.pool(0, 32));
-        b.due("state", b.shown(), before);
+        b.seen("refused", before);
     }
 
     private static void lists() {

@@ -53,17 +53,17 @@ public final class RunTest {
 
     private static void wrongStarts() {
         Bench b = Bench.ready("wrong start", 2).words(0, WAIT);
-        long before = b.shown();
+        Seen before = Seen.of(b.x);
         int[] levels = {-1, 3, Integer.MIN_VALUE, Integer.MAX_VALUE};
         for (int level : levels) {
             b.throwing("start", IllegalArgumentException.class, () -> b.x.start(5, level, true));
         }
-        b.due("state", b.shown(), before);
+        b.seen("refused", before);
         b.go(1, 2);
-        before = b.shown();
+        before = Seen.of(b.x);
         b.throwing("start, runs", IllegalStateException.class, () -> b.x.start(5, 2, true));
         b.throwing("start, both", IllegalArgumentException.class, () -> b.x.start(5, 3, true));
-        b.due("state", b.shown(), before);
+        b.seen("refused", before);
     }
 
     private static void halts() {
@@ -74,10 +74,10 @@ public final class RunTest {
         b.look(Bench.RUNS, 0);
         b.look(Bench.PC, 0);
         b.look(Bench.STATE, 1);
-        long before = b.shown();
+        Seen before = Seen.of(b.x);
         b.due("halt()", b.x.halt(), false);
         b.run(300, 0);
-        b.due("state", b.shown(), before);
+        b.seen("refused", before);
         b.x.start(0, 0, false);
         b.run(1, 1);
         b.words(0, Bench.ins(31, 0));
@@ -117,11 +117,11 @@ public final class RunTest {
             b.throwing("run", IllegalArgumentException.class, () -> b.x.run(n));
         }
         b.x.start(0, 0, false);
-        long before = b.shown();
+        Seen before = Seen.of(b.x);
         for (int n : wrong) {
             b.throwing("run", IllegalArgumentException.class, () -> b.x.run(n));
         }
-        b.due("state", b.shown(), before);
+        b.seen("refused", before);
     }
 
     private static void registers() {

@@ -43,10 +43,10 @@ public final class WalkTest {
             b.x.put(below(8) == 0 ? below(512) : k, anyWord());
         }
         for (int call = 0; call < CALLS; call++) {
-            long before = call % 16 == 0 ? b.shown() : 0;
+            Seen before = call % 16 == 0 ? Seen.of(b.x) : null;
             boolean refused = call(b, below(12));
-            if (refused && call % 16 == 0) {
-                b.due("state after a refusal", b.shown(), before);
+            if (refused && before != null) {
+                b.seen("refused", before);
             }
         }
         bounds(b);
