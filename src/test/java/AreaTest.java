@@ -28,14 +28,15 @@ public final class AreaTest {
     }
 
     private static void areaHasItsWords(int k, int at) {
-        int[] lower = {1, 27, 22, 23, 10, 11, 12, 13};
+        int kept = 256 * Way.PRIORITY + 4096;
+        int[] lower = {1 + kept, 27, 22, 23, 10, 11, 12, 13};
         Way.LOWER.ready(k, 31).step("a step", seen -> {
-            seen.set(Bench.FREE, seen.words[at]).set(Bench.LINK, k).pc(5);
+            seen.set(Bench.FREE, seen.words[at]).set(Bench.LINK, k + kept).pc(5);
             System.arraycopy(lower, 0, seen.words, at, 8);
         });
-        int[] upper = {1, 1, 26, 27, 14, 15, 16, 17};
+        int[] upper = {1 + kept, 1, 26, 27, 14, 15, 16, 17};
         Way.CALL.ready(k, 31).step("a step", seen -> {
-            seen.set(Bench.FREE, seen.words[at]).set(Bench.LINK, k + 32).pc(44);
+            seen.set(Bench.FREE, seen.words[at]).set(Bench.LINK, k + 32 + kept).pc(44);
             seen.set(Bench.STATE, 9).a(7, 5);
             System.arraycopy(upper, 0, seen.words, at, 8);
         });

@@ -8,6 +8,9 @@ final class Bench {
     static final int TABLE = 100;
     static final int OTHER = 140;
 
+    /** The addresses where ranges of a busy bench begin and end, and some others. */
+    static final int[] EDGES = {0, 40, 60, 200, 203, 210, 213, 220, 223, 230, 233, 300, 512};
+
     static final int D = 0;
     static final int A = 1;
     static final int RUNS = 0;
@@ -40,9 +43,6 @@ final class Bench {
         bench.x.tables(TABLE, OTHER);
         return bench;
     }
-
-    /** The addresses where ranges of a busy bench begin and end, and some others. */
-    static final int[] EDGES = {0, 40, 60, 200, 203, 210, 213, 220, 223, 230, 233, 300, 512};
 
     /** A bench that runs, with nothing that is 0: ranges, timer, lists, STATE, PENDING, a trap. */
     static Bench busy(String name) {
@@ -195,18 +195,29 @@ final class Bench {
         return this;
     }
 
+    /** It runs from pc on with this STATE word, with PRIORITY 0 and not ENABLED. */
+    Bench enter(int pc, int state) {
+        return enter(pc, state, 0, false);
+    }
+
     /**
-     * It runs from pc on with this STATE word, by a program at 470 that calls, and comes back to
-     * what was put into the area; that is the first of the FREE list, and is so again.
+     * It runs from pc on with these, by a program at 470 that calls twice and comes back to what
+     * was put into the two areas; they are the first of the FREE list, and are so again.
      */
-    Bench enter(int pc, int state, boolean enabled) {
-        words(470, ins(21, 1), ins(9, 7, 0, 0, pc), ins(26, 0));
-        x.start(470, 2, enabled);
-        run(2, 2);
-        x.put(area(x.look(LINK) & 31) + 1, state);
-        run(1, 1);
+    Bench enter(int pc, int state, int priority, boolean enabled) {
+        words(470, ins(21, 1), ins(21, 1), ins(9, 7, 0, 0, 474), ins(22, 0));
+        words(474, ins(9, 7, 0, 0, pc), ins(26, 0));
+        x.start(470, 2, false);
+        run(3, 3);
+        int second = x.look(LINK) & 31;
+        int first = x.word(area(second)) & 31;
+        x.put(area(second), first + 32 + 256 * priority + (enabled ? 4096 : 0));
+        x.put(area(first) + 1, state);
+        run(3, 3);
         look(PC, pc);
         look(STATE, state);
+        look(PRIORITY, priority);
+        look(ENABLED, enabled ? 1 : 0);
         return this;
     }
 

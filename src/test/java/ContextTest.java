@@ -22,18 +22,6 @@ public final class ContextTest {
         Bench.end();
     }
 
-    /** D0 .. D7 are 10 .. 17, A1 .. A7 21 .. 27. */
-    private static Bench filled(String name, int n) {
-        Bench b = Bench.ready(name, n);
-        for (int k = 0; k < 8; k++) {
-            b.words(448 + 2 * k, Bench.ins(1, k, 0, 0, 10 + k), Bench.ins(9, k, 0, 0, 20 + k));
-        }
-        b.x.start(448, 2, false);
-        b.run(16, 16);
-        b.x.halt();
-        return b;
-    }
-
     private static void changeAll(Bench b, int at) {
         for (int k = 0; k < 8; k++) {
             b.words(at + 2 * k, Bench.ins(1, k, 0, 0, 50 + k), Bench.ins(9, k, 0, 0, 60 + k));
@@ -41,7 +29,7 @@ public final class ContextTest {
     }
 
     private static void callAndReturn() {
-        Bench b = filled("call", 3);
+        Bench b = Bench.ready("call", 3).filled();
         b.words(40, Bench.ins(21, 30));
         changeAll(b, 70);
         b.words(86, Bench.ins(9, 7, 0, 0, 90), RETURN);
@@ -71,7 +59,7 @@ public final class ContextTest {
     }
 
     private static void lower() {
-        Bench b = filled("lower", 3).words(40, KEEP);
+        Bench b = Bench.ready("lower", 3).filled().words(40, KEEP);
         changeAll(b, 41);
         b.words(57, BACK);
         b.x.start(40, 0, false);

@@ -5,10 +5,13 @@ public final class InstructionTest {
 
     public static void main(String[] args) {
         computing();
+        sumsWrap();
         shifts();
         wordsAtTheEdges();
         growing();
         rings();
+        ringsOfEachRegister();
+        atTheLastAddress();
         ringBeforeTheWord();
         jumps();
         calls();
@@ -63,6 +66,38 @@ public final class InstructionTest {
             compute(seen, op, a, b, c, 3);
             seen.pc(AT + 1);
         });
+    }
+
+    /** "Sums wrap", and so do differences and products: D6 of D2 and D5, or of D2 and i. */
+    private static void sumsWrap() {
+        int most = Integer.MAX_VALUE;
+        int least = Integer.MIN_VALUE;
+        int[][] rows = {
+            {2, most, 0, 0, most}, {2, most, 0, 1, least}, {2, most, 0, 2, least + 1},
+            {2, least, 0, 0, least}, {2, least, 0, -1, most}, {2, least, 0, -2, most - 1},
+            {3, most, 0, 0, most}, {3, most, 1, 0, least}, {3, least, -1, 0, most},
+            {3, most, most, 0, -2}, {3, least, least, 0, 0}, {3, most, least, 0, -1},
+            {4, least, 0, 0, least}, {4, least, 1, 0, most}, {4, most, -1, 0, least},
+            {4, 0, least, 0, least}, {4, -1, least, 0, most}, {4, least, most, 0, 1},
+            {5, 65536, 32767, 0, 2147418112}, {5, 65536, 32768, 0, least}, {5, 65536, 65536, 0, 0},
+            {5, 46341, 46341, 0, -2147479015}, {5, least, -1, 0, least}, {5, most, 2, 0, -2},
+        };
+        for (int[] row : rows) {
+            Bench b = Bench.ready(row[0] + " of " + row[1] + ", " + row[2] + ", " + row[3], 1);
+            b.setD(2, row[1]);
+            b.setD(5, row[2]);
+            b.words(AT, Bench.ins(row[0], 6, 2, 5, row[3]));
+            b.x.start(AT, 0, false);
+            b.step("a step", seen -> seen.d(6, row[4]).pc(AT + 1));
+        }
+        int[][] addresses = {{most, 1, least}, {least, -1, most}, {most, 0, most}, {-1, 1, 0}};
+        for (int[] row : addresses) {
+            Bench b = Bench.ready("10 of " + row[0] + ", " + row[1], 1);
+            b.setA(2, row[0]);
+            b.words(AT, Bench.ins(10, 6, 2, 5, row[1]));
+            b.x.start(AT, 0, false);
+            b.step("a step", seen -> seen.a(6, row[2]).pc(AT + 1));
+        }
     }
 
     /** "Da = Db << i, or for i below 0 Db >> -i", the sign coming in from the left. */
@@ -172,12 +207,41 @@ public final class InstructionTest {
         for (int[] row : rows) {
             ring(row[0], row[1], row[2], row[3]);
         }
-        Bench last = Bench.ready("the ring of A7 is in A0", 3);
-        last.setA(7, 200);
-        last.setA(0, 3 << 16 | 2);
-        last.words(202, 777).words(AT, Bench.ins(17, 1, 7, 0, 1));
-        last.x.start(AT, 0, false);
-        last.step("a step", seen -> seen.d(1, 777).a(0, 3 << 16).pc(AT + 1));
+    }
+
+    /** The ring of Ab is in A((b + 1) & 7), that of A7 in A0. */
+    private static void ringsOfEachRegister() {
+        for (int b = 0; b < 8; b++) {
+            int ring = b == 7 ? 0 : b + 1;
+            Bench bench = Bench.ready("the ring of A" + b, 3).filled();
+            bench.words(448, Bench.ins(9, b, 0, 0, 510), Bench.ins(13, 0, b, 0, 0));
+            bench.words(450, Bench.ins(11, ring, 0, 0, 0), Bench.ins(9, b, 0, 0, 200));
+            bench.words(510, 3 << 16 | 2).words(202, 777).words(AT, Bench.ins(17, 1, b, 0, 1));
+            bench.x.start(448, 2, false);
+            bench.run(4, 4);
+            bench.x.halt();
+            bench.x.start(AT, 0, false);
+            bench.step("a step", seen -> seen.d(1, 777).a(ring, 3 << 16).pc(AT + 1));
+        }
+    }
+
+    /** At 511 the PC behind the instruction is no address, which is for the next step to tell. */
+    private static void atTheLastAddress() {
+        for (int op : new int[] {1, 18, 21, 23, 27, 31, 0}) {
+            Bench b = Bench.ready(op + " at 511", 3).filled().words(511, Bench.ins(op, 1, 0, 0, 1));
+            b.enter(511, 2);
+            b.step("a step", seen -> {
+                switch (op) {
+                    case 1: seen.d(1, 1).pc(512); break;
+                    case 18: seen.pc(512); break;
+                    case 21: seen.upper(1).a(7, 512).set(Bench.STATE, 10).pc(512); break;
+                    case 23: seen.lower(1).pc(512); break;
+                    case 27: seen.trap(6, 1, 1, 512); break;
+                    case 31: seen.halted(); break;
+                    default: seen.trap(2, 1, 1, 511); break;
+                }
+            });
+        }
     }
 
     /** What the instruction itself asks for comes before what its word does. */
@@ -228,7 +292,7 @@ public final class InstructionTest {
             for (int i : new int[] {5, 0, -41, 32767, -32768}) {
                 int state = 1 + 4 + 8 * depth;
                 Bench b = Bench.ready("CALL at DEPTH " + depth, 5).filled();
-                b.words(AT, Bench.ins(21, 3, 3, 3, i)).enter(AT, state, false);
+                b.words(AT, Bench.ins(21, 3, 3, 3, i)).enter(AT, state);
                 b.step("a step", seen -> {
                     if (state == 1 + 4 + 8 * 15) {
                         seen.trap(3, 2, 1, AT);
@@ -285,7 +349,7 @@ public final class InstructionTest {
             int state = 1 + 8 * depth;
             boolean none = depth == 0;
             Bench b = Bench.ready("RETURN without an area, DEPTH " + depth, 5).filled();
-            b.words(AT, Bench.ins(22, 0)).enter(AT, state, false);
+            b.words(AT, Bench.ins(22, 0)).enter(AT, state);
             b.step("a step", seen -> {
                 if (none) {
                     seen.trap(3, 3, 1, AT);
@@ -294,7 +358,7 @@ public final class InstructionTest {
                 }
             });
             Bench lower = Bench.ready("RETURN of a LOWER one, DEPTH " + depth, 5).filled();
-            lower.words(AT - 1, Bench.ins(23, 0), Bench.ins(22, 0)).enter(AT - 1, state, false);
+            lower.words(AT - 1, Bench.ins(23, 0), Bench.ins(22, 0)).enter(AT - 1, state);
             lower.run(1, 1);
             lower.step("a step", seen -> seen.trap(3, none ? 3 : 4, 2, AT));
         }
@@ -385,7 +449,7 @@ public final class InstructionTest {
 
     private static void changingTheLevel(int state, int to, int word) {
         Bench b = Bench.ready("30 to " + to + " from " + state, 3).filled();
-        b.words(AT, word).enter(AT, state, false);
+        b.words(AT, word).enter(AT, state);
         b.step("a step", seen -> {
             if (to > (state & 3)) {
                 seen.trap(1, 1, 1, AT);

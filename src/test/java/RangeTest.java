@@ -20,26 +20,25 @@ public final class RangeTest {
         Bench.end();
     }
 
-    /** Before the word at 40 with this STATE, guarded, with code 0 .. 255 in both sets. */
-    private static Bench guarded(String name, int state, int word) {
-        Bench b = Bench.ready(name, 5).filled();
-        b.x.range(0, 2, 0, 256, 0);
-        b.x.range(1, 2, 0, 256, 0);
+    /** With the word at 40, guarded, with code 0 .. 255 in both sets (with all rights), and no data. */
+    private static Bench guarded(String name, int word) {
+        Bench b = Bench.ready(name, 5).filled().words(AT, word);
+        b.x.range(0, 2, 0, 256, 3);
+        b.x.range(1, 2, 0, 256, 3);
         b.x.guard(true);
-        return b.words(AT, word).enter(AT, state, false);
+        return b;
     }
 
     /** Words are read by 13, 15 and 17 and written by 14 and 16, at A3, from or to D5. */
     private static Bench using(String name, int state, int op, int address) {
-        Bench b = guarded(name + ", " + op + " of " + address, state, Bench.ins(op, 5, 3, 0, 0));
-        b.x.halt();
+        Bench b = guarded(name + ", " + op + " of " + address, Bench.ins(op, 5, 3, 0, 0));
         b.setA(4, 65536);
         b.setA(3, address);
         b.setD(5, 555);
         if (reads(op)) {
             b.x.put(address, 777);
         }
-        return b.enter(AT, state, false);
+        return b.enter(AT, state);
     }
 
     private static boolean reads(int op) {
@@ -122,7 +121,7 @@ public final class RangeTest {
     private static void done(Bench b, int address, int state, boolean lets) {
         b.words(address, Bench.ins(1, 5));
         b.x.guard(true);
-        b.enter(address, state, false);
+        b.enter(address, state);
         b.step("the word at " + address, seen -> {
             if (lets) {
                 seen.d(0, 5).pc(address + 1);
@@ -197,7 +196,7 @@ public final class RangeTest {
 
     /** LEVEL is 2 in a handler; back from it, it is guarded as before. */
     private static void handlersAreNotGuarded() {
-        Bench b = guarded("handler", 1, Bench.ins(27, 5));
+        Bench b = guarded("handler", Bench.ins(27, 5)).enter(AT, 1);
         b.x.range(0, 2, AT, AT + 1, 0);
         b.words(124, Bench.ins(13, 1, 0, 0, 0), Bench.ins(26, 0));
         b.step("the trap", seen -> seen.trap(6, 5, 1, AT + 1));
@@ -208,7 +207,7 @@ public final class RangeTest {
 
     /** "What is kept and brought back is not guarded", though no range lets data be used. */
     private static void contextsAreNotGuarded() {
-        Bench b = guarded("contexts", 0, Bench.ins(23, 0));
+        Bench b = guarded("contexts", Bench.ins(23, 0)).enter(AT, 0);
         b.words(AT + 1, Bench.ins(24, 0), Bench.ins(21, 1), Bench.ins(22, 0));
         b.step("23", seen -> seen.lower(1).pc(AT + 1));
         b.step("24", seen -> seen.word(256, 2).pc(AT + 2).set(Bench.FREE, 1).set(Bench.LINK, 0));

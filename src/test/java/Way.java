@@ -46,11 +46,6 @@ enum Way {
     TRAP_6(1 + 4 + 8, Bench.ins(27, 200), 6, 200),
     INTERRUPT(1 + 4 + 8, Bench.ins(1, 5)) {
         @Override
-        boolean enabled() {
-            return true;
-        }
-
-        @Override
         void due(Seen seen, int area) {
             seen.interrupt(9, area);
         }
@@ -58,6 +53,7 @@ enum Way {
 
     /** Where the step's instruction stands, but for the trap of a PC that is no address. */
     static final int AT = 4;
+    static final int PRIORITY = 5;
 
     final int trapClass;
     private final int number;
@@ -79,8 +75,9 @@ enum Way {
         return AT;
     }
 
+    /** It is, wherever the step could make it otherwise. */
     boolean enabled() {
-        return false;
+        return this != OPEN;
     }
 
     /** Reading and writing are guarded wherever that is the trap, with all words as code. */
@@ -103,10 +100,10 @@ enum Way {
         b.filled();
         guard(b.x);
         b.words(at() - 1, Bench.ins(23, 0), word);
-        b.enter(at() - 1, state, enabled());
+        b.enter(at() - 1, state, PRIORITY, enabled());
         b.x.put(Bench.area(1), free);
         b.run(1, 1);
-        if (enabled()) {
+        if (this == INTERRUPT) {
             b.x.request(9);
         }
         b.look(Bench.PC, at());
